@@ -2,6 +2,7 @@ import java.util.NoSuchElementException;
 
 /** An olympiad of games of the mind: events, games, tables, ratings, titles and prizes. */
 public final class MindFest {
+    private static final int BITS = 32;
     private static final int PLAYERS = 12;
     private static final int EVENTS = 4;
     private static final int GAMES = 100;
@@ -611,7 +612,7 @@ public final class MindFest {
     }
 
     private static boolean hasBit(int bits, int index) {
-        return index >= 0 && index < PLAYERS && (bits >> index & 1) == 1;
+        return index >= 0 && index < BITS && (bits >> index & 1) == 1;
     }
 
     private static boolean isWithin(int number, int low, int high) {
@@ -1163,7 +1164,7 @@ public final class MindFest {
             int taken = 0;
             for (int p = 0; p < PLAYERS; p++) {
                 int place = at(places, p);
-                if (contest.has(p) && (!isWithin(place, 1, size) || (taken >> place & 1) == 1)) {
+                if (contest.has(p) && (!isWithin(place, 1, size) || hasBit(taken, place))) {
                     return false;
                 }
                 taken |= contest.has(p) ? 1 << place : 0;

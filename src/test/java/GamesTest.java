@@ -60,6 +60,10 @@ public final class GamesTest {
         CHECK.is("the other one takes the last", fest.move(0, 21, 1), '0');
         CHECK.is("points of the other one", fest.points(0, 1), 2);
         CHECK.is("the first one takes the last", Fests.withMoves('n', 3, 14).move(0, 25, 1), '1');
+        CHECK.is("the first heap is left", Fests.withMoves('n', 14, 25).result(0), '*');
+        CHECK.is("the second heap is left", Fests.withMoves('n', 3, 25).result(0), '*');
+        CHECK.is("1, 4 and 3 are left", Fests.withMoves('n', 2, 22).result(0), '*');
+        CHECK.is("the first heap last", Fests.withMoves('n', 14, 25).move(0, 3, 1), '1');
     }
 
     private static void wrongMoves() {
@@ -150,6 +154,9 @@ public final class GamesTest {
         CHECK.is("still two", fest.periods(0, true), 2);
         CHECK.is("the last period", fest.move(0, 5, 5), '1');
         CHECK.is("periods stay as they were", fest.periods(0, false), 1);
+        MindFest brief = Fests.withGame('t', 'b', 10, 1, 5);
+        brief.move(0, 0, 13);
+        CHECK.is("a period for each second", brief.periods(0, true), 2);
         MindFest quick = Fests.withGame('t', 'b', 10, 5, 2);
         CHECK.is("all at once but one", quick.move(0, 0, 19), '*');
         CHECK.is("one is left", quick.periods(0, true), 1);
@@ -209,6 +216,9 @@ public final class GamesTest {
         CHECK.is("a corner, the middle", Fests.withMoves('t', 0, 4).best(0), '=');
         CHECK.is("the other one wins at once", Fests.withMoves('t', 1, 4, 3, 0, 5).best(0), '0');
         CHECK.is("both are about to win", Fests.withMoves('t', 0, 3, 1, 4).best(0), '1');
+        CHECK.is("the other one is to move, and lost", Fests.withMoves('t', 0, 1, 4).best(0), '1');
+        CHECK.is("the other one is to move, and holds", Fests.withMoves('t', 4).best(0), '=');
+        CHECK.is("the middle of a side", Fests.withMoves('t', 1, 0, 3).best(0), '=');
         CHECK.is("a game by forfeit", ended('t', '-').best(0), '-');
     }
 

@@ -13,6 +13,8 @@ public final class PairingTest {
         wrongCalls();
         lands();
         byes();
+        nobodyHasTwoByes();
+        byeInTheMiddle();
         forfeitsAreNoMeetings();
         withdrawnAndBanned();
         weightOfBye();
@@ -125,6 +127,37 @@ public final class PairingTest {
         CHECK.fails("all had a bye", SUPPORT, () -> fest.pair(0));
         MindFest even = Fests.withGame('t');
         CHECK.fails("nobody had it", ELEMENT, () -> even.bye(0, 0));
+    }
+
+    /** By forfeits nobody meets, so byes alone bring the rounds of three to an end. */
+    private static void nobodyHasTwoByes() {
+        MindFest fest = Fests.ofPlayers(3);
+        fest.event('t', 7, 7);
+        String byes = "";
+        for (int round = 0; round < 3; round++) {
+            fest.end(fest.pair(0), '+');
+            byes += fest.bye(0, round);
+        }
+        CHECK.is("each one once", byes, "210");
+        CHECK.fails("nobody twice", SUPPORT, () -> fest.pair(0));
+        fest.player(1500, 5);
+        fest.join(0, 3);
+        fest.pair(0);
+        CHECK.fails("four of them, no bye", ELEMENT, () -> fest.bye(0, 3));
+    }
+
+    /** The bye of 0 or of 2 makes 110; with that of 2 the partner of 0 is lower than the bye. */
+    private static void byeInTheMiddle() {
+        MindFest fest = Fests.ofPlayers(5);
+        fest.event('t', 7, 31);
+        fest.pair(0);
+        fest.end(0, '1');
+        fest.end(1, '1');
+        CHECK.is("100 for the bye, 10 for 1 and 3", fest.weight(0), 110);
+        fest.pair(0);
+        CHECK.is("the bye", fest.bye(0, 1), 2);
+        game(fest, 2, 4, 0);
+        game(fest, 3, 1, 3);
     }
 
     private static void forfeitsAreNoMeetings() {

@@ -135,6 +135,8 @@ public final class PlayersEventsTest {
         CHECK.fails("the tenth again", SUPPORT, () -> fest.join(0, 9));
         CHECK.is("the first withdraws", fest.withdraw(0, 0), 9);
         CHECK.fails("who withdrew is still in it", STATE, () -> fest.join(0, 10));
+        fest.event('n', 1, 3 << 10 | 1);
+        CHECK.is("the twelfth withdraws", fest.withdraw(1, 11), 2);
         fest.close(0);
         CHECK.fails("full and closed", SUPPORT, () -> fest.join(0, 10));
     }

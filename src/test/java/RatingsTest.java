@@ -18,6 +18,7 @@ public final class RatingsTest {
         correctedLater();
         correctedForfeit();
         ratingsOnDays();
+        ratingsOnManyDays();
         ratedGames();
         wrongCalls();
         manyDays();
@@ -195,6 +196,36 @@ public final class RatingsTest {
         CHECK.is("the day after", fest.ratingOn(2, 3), 1700);
         CHECK.fails("the day ahead of that", ELEMENT, () -> fest.ratingOn(2, 1));
         CHECK.fails("player 3, day -1", INDEX, () -> fest.ratingOn(3, -1));
+    }
+
+    /** Player 0 wins a game on each other day, against one who is added on that day with 1000 more. */
+    private static void ratingsOnManyDays() {
+        MindFest fest = Fests.ofRatings(1000, 2500);
+        int event = fest.event('t', 7, 3);
+        for (int round = 0; round < 4; round++) {
+            int game = fest.pair(event);
+            fest.end(game, fest.playerOf(game, true) == 0 ? '1' : '0');
+            fest.withdraw(event, round + 1);
+            fest.day();
+            fest.day();
+            fest.join(event, fest.player(2500, 3));
+        }
+        CHECK.yes("sound", fest.isSound());
+        String own = "";
+        for (int day = 0; day <= 8; day++) {
+            own += fest.ratingOn(0, day) + " ";
+        }
+        CHECK.is("player 0", own, "1000 1040 1040 1080 1080 1120 1120 1160 1160 ");
+        CHECK.is("player 1", fest.ratingOn(1, 0) * 10000 + fest.ratingOn(1, 8), 25002460);
+        CHECK.is("player 2, as added", fest.ratingOn(2, 2), 2500);
+        CHECK.is("player 2, a day after", fest.ratingOn(2, 3), 2460);
+        CHECK.is("player 4, as added", fest.ratingOn(4, 6), 2500);
+        CHECK.is("player 4 at last", fest.ratingOn(4, 8), 2460);
+        CHECK.is("player 5 at last", fest.ratingOn(5, 8), 2500);
+        CHECK.fails("player 5, too early", ELEMENT, () -> fest.ratingOn(5, 7));
+        fest.correct(1, fest.playerOf(1, true) == 0 ? '-' : '+');
+        CHECK.is("by forfeit", fest.ratingOn(0, 4) * 10000 + fest.ratingOn(0, 8), 10401120);
+        CHECK.is("player 2, by forfeit", fest.ratingOn(2, 8), 2500);
     }
 
     private static void ratedGames() {

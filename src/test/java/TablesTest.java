@@ -47,6 +47,16 @@ public final class TablesTest {
         row(fest, 2, 3, 0 + 3, 2 * 0 + 3, 2);
         row(fest, 1, 0, 3, 0, 3);
         row(fest, 3, 0, 3, 0, 4);
+        fest.end(3, '+');
+        fest.event('n', 1, 5);
+        fest.pair(1);
+        fest.end(4, '1');
+        fest.pair(0);
+        CHECK.is("0 and 3 play, and 1 and 2", fest.playerOf(5, true) + fest.playerOf(5, false), 3);
+        row(fest, 0, 3, 2 + 3, 2 * 2 + 3, 1);
+        row(fest, 2, 3, 0 + 3, 2 * 0 + 3, 2);
+        row(fest, 1, 2, 3 + 1, 0, 3);
+        row(fest, 3, 0, 3, 0, 4);
     }
 
     /** A bye counts own points, halved and cut, again after each game. */

@@ -16,6 +16,7 @@ public final class TitlesTest {
         normWithForfeits();
         titles();
         titleByOneDay();
+        titleAtTwoThousand();
         titleLostByCorrection();
         agree();
         odds();
@@ -146,6 +147,18 @@ public final class TitlesTest {
         CHECK.yes("titled for good", fest.isTitled(0));
     }
 
+    /** 1800 and eight wins of 25 make 2000, and 1799 make one less. */
+    private static void titleAtTwoThousand() {
+        MindFest fest = withNorms(1800, 2);
+        fest.day();
+        CHECK.is("2000", fest.rating(0), 2000);
+        CHECK.yes("titled by 2000", fest.isTitled(0));
+        MindFest less = withNorms(1799, 2);
+        less.day();
+        CHECK.is("1999", less.rating(0), 1999);
+        CHECK.no("titled by 1999", less.isTitled(0));
+    }
+
     /** By two norms 1980 become 1988, and by a win more 2008; when the win falls, so does the title. */
     private static void titleLostByCorrection() {
         MindFest fest = new MindFest();
@@ -252,8 +265,15 @@ public final class TitlesTest {
         CHECK.fails("lifted", SUPPORT, () -> fest.lift(0));
         CHECK.fails("all told is gone", ArithmeticException.class, () -> fest.odds(0));
         CHECK.no("eyes are gone", fest.suspect(0, 1));
-        CHECK.is("moves are gone", fest.agree(0, 60, 60), 60);
+        CHECK.is("moves are gone", fest.agree(0, 2, 1), 2);
+        CHECK.is("agreements are gone", fest.odds(0), 0.75);
+        fest.agree(0, 58, 58);
         CHECK.yes("banned again", fest.suspect(0, 3));
+        fest.agree(3, 20, 20);
+        fest.suspect(3, 0);
+        fest.suspect(3, 1);
+        fest.lift(3);
+        CHECK.no("eyes of 0 are gone", fest.suspect(3, 0));
         MindFest three = Fests.ofPlayers(4);
         three.suspect(0, 1);
         three.suspect(0, 2);
