@@ -23,6 +23,9 @@ public final class MindFest {
     // Each row of three of the board 't', its places as bits.
     private static final int[] ROWS = {7, 56, 448, 73, 146, 292, 273, 84};
 
+    // What each place of the board 't' counts in the key of a position, which is a number of nine digits to base 3.
+    private static final int[] UNITS = {1, 3, 9, 27, 81, 243, 729, 2187, 6561};
+
     private final Roll roll = new Roll();
     private final Table table = new Table();
     private final Pairing pairing = new Pairing();
@@ -969,7 +972,8 @@ public final class MindFest {
             if (game == 'n') {
                 return nextTaker() ? winOf(turn) : winOf(1 - turn);
             }
-            int value = searchValue(known, at(marked, turn), at(marked, 1 - turn), 0);
+            int key = keyOf(at(marked, 0), at(marked, 1));
+            int value = searchValue(known, at(marked, turn), at(marked, 1 - turn), key, turn + 1, 0);
             return value == 0 ? '=' : winOf(value > 0 ? turn : 1 - turn);
         }
 
@@ -1000,36 +1004,31 @@ public final class MindFest {
             return false;
         }
 
-        static int keyOf(int own, int other) {
+        static int keyOf(int first, int second) {
             int key = 0;
-            int unit = 1;
-            for (int i = 0; i < PLACES; i++) {
-                if (hasBit(own, i)) {
-                    key += unit;
-                } else if (hasBit(other, i)) {
-                    key += 2 * unit;
-                }
-                unit *= 3;
+            for (int i = 0; i < UNITS.length; i++) {
+                key += hasBit(first, i) ? UNITS[i] : hasBit(second, i) ? 2 * UNITS[i] : 0;
             }
             return key;
         }
 
-        /** What best play brings the one to move: 1 a win, 0 a draw, -1 a loss; known keeps it plus 2. */
-        private static int searchValue(int[] known, int own, int other, int depth) {
-            if (hasRow(other)) {
-                return -1;
-            }
-            if ((own | other) == ALL_PLACES || depth > PLACES) {
-                return 0;
-            }
-            int key = keyOf(own, other);
+        /**
+         * What best play brings the one to move, who has the digit 1 or 2 in keys: 1 a win, 0 a draw, -1 a loss.
+         * What was found is known by the key from then on, plus 2, and is looked up ahead of all else.
+         */
+        private static int searchValue(int[] known, int own, int other, int key, int digit, int depth) {
             if (at(known, key) > 0) {
                 return at(known, key) - 2;
             }
-            int value = -1;
-            for (int i = 0; i < PLACES && value < 1; i++) {
+            if (depth > PLACES) {
+                return 0;
+            }
+            boolean isLost = hasRow(other);
+            int value = !isLost && (own | other) == ALL_PLACES ? 0 : -1;
+            for (int i = 0; i < UNITS.length && !isLost && value < 1; i++) {
                 if (!hasBit(own | other, i)) {
-                    value = Math.max(value, -searchValue(known, other, own | 1 << i, depth + 1));
+                    int next = key + digit * UNITS[i];
+                    value = Math.max(value, -searchValue(known, other, own | 1 << i, next, 3 - digit, depth + 1));
                 }
             }
             put(known, key, value + 2);
