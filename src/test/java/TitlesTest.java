@@ -17,6 +17,7 @@ public final class TitlesTest {
         titles();
         titleByOneDay();
         titleAtTwoThousand();
+        titleOfALaterPlayer();
         titleLostByCorrection();
         agree();
         odds();
@@ -157,6 +158,21 @@ public final class TitlesTest {
         less.day();
         CHECK.is("1999", less.rating(0), 1999);
         CHECK.no("titled by 1999", less.isTitled(0));
+    }
+
+    /** Player 4 comes from 1850 to 2026 on the second of two days with games. */
+    private static void titleOfALaterPlayer() {
+        MindFest fest = Fests.ofRatings(1900, 1900, 1900, 1900, 1850, 1900, 1900);
+        Fests.gauntlet(fest, 5, new int[]{6}, new int[]{1});
+        fest.day();
+        for (int i = 0; i < 2; i++) {
+            fest.close(Fests.gauntlet(fest, 4, new int[]{0, 1, 2, 3}, WINS));
+        }
+        CHECK.no("1850", fest.isTitled(4));
+        fest.day();
+        CHECK.is("2000 and more", fest.rating(4), 2026);
+        CHECK.yes("titled", fest.isTitled(4));
+        CHECK.no("no norms", fest.isTitled(5) || fest.isTitled(0));
     }
 
     /** By two norms 1980 become 1988, and by a win more 2008; when the win falls, so does the title. */
