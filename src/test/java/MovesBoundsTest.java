@@ -26,6 +26,7 @@ public final class MovesBoundsTest {
         periodsAtTheirEdges();
         spentPeriods();
         flagAndRows();
+        flagAndEachRow();
         flagAndHeaps();
         flagChangesNothingElse();
         legalWhenOver();
@@ -276,6 +277,68 @@ public final class MovesBoundsTest {
         CHECK.is("flag, four marks: 6, 7 and 8 are free of them", free.move(0, 6, 999), '0');
         CHECK.is("flag, a row is free though the other one has no mark in it",
                 Fests.withMoves('t', 0, 1, 4, 8).move(0, 2, 999), '0');
+    }
+
+    /** The moves of games in which one row alone stays free of marks of the one whose flag falls by the last move. */
+    private static void flagAndEachRow() {
+        int[][] rows = {{0, 1, 2}, {3, 4, 5}, {6, 7, 8}, {0, 3, 6}, {1, 4, 7}, {2, 5, 8}, {0, 4, 8}, {2, 4, 6}};
+        for (int[] row : rows) {
+            String name = row[0] + " " + row[1] + " " + row[2];
+            int[] marks = blockingAllBut(row, rows);
+            MindFest fest = withMarks(marks, row);
+            CHECK.is("flag, the one free row is " + name, fest.move(0, row[2], 999), '0');
+        }
+    }
+
+    /** Marks of the first one, no three of them in a row, that touch all rows but one. */
+    private static int[] blockingAllBut(int[] free, int[][] rows) {
+        for (int bits = 0; bits < 512; bits++) {
+            boolean fits = !touches(bits, free);
+            for (int[] row : rows) {
+                fits = fits && (row == free || touches(bits, row)) && !fills(bits, row);
+            }
+            if (fits && Integer.bitCount(bits) <= 4) {
+                return places(bits);
+            }
+        }
+        throw new IllegalStateException("no marks touch all rows but one");
+    }
+
+    private static boolean touches(int bits, int[] row) {
+        return (bits >> row[0] & 1) + (bits >> row[1] & 1) + (bits >> row[2] & 1) > 0;
+    }
+
+    private static boolean fills(int bits, int[] row) {
+        return (bits >> row[0] & 1) + (bits >> row[1] & 1) + (bits >> row[2] & 1) == 3;
+    }
+
+    private static int[] places(int bits) {
+        int[] places = new int[Integer.bitCount(bits)];
+        int count = 0;
+        for (int place = 0; place < 9; place++) {
+            if ((bits >> place & 1) == 1) {
+                places[count++] = place;
+            }
+        }
+        return places;
+    }
+
+    private static MindFest withMarks(int[] marks, int[] free) {
+        MindFest fest = Fests.withGame('t');
+        for (int mark : marks) {
+            CHECK.is("a mark of the first one", fest.move(0, mark, 1), '*');
+            for (int place = 0; place < 9; place++) {
+                boolean isKept = place == free[2];
+                for (int own : marks) {
+                    isKept |= place == own;
+                }
+                if (!isKept && fest.isLegal(0, place)) {
+                    CHECK.is("a mark of the other one", fest.move(0, place, 1), '*');
+                    break;
+                }
+            }
+        }
+        return fest;
     }
 
     private static void flagAndHeaps() {

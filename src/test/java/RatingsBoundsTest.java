@@ -1,3 +1,5 @@
+import java.math.BigDecimal;
+import java.math.RoundingMode;
 import java.util.NoSuchElementException;
 
 /** The bounds that promises 26 to 29 name: day, rating, ratingOn, rated. */
@@ -29,6 +31,7 @@ public final class RatingsBoundsTest {
         correctedOnTheDay();
         correctedAnew();
         correctedToForfeit();
+        hundredDays();
         ratingsOfDays();
         laterPlayers();
         ratedGames();
@@ -129,6 +132,7 @@ public final class RatingsBoundsTest {
     /** By 390 less 13 thousandths are expected, by 391 less 12, by 411 less none, as there are none below 0. */
     private static void expectationFromNothing() {
         CHECK.is("expectation, 390 less, a loss", after(1500, 1890, '0'), "1499 1891");
+        CHECK.is("expectation, 390 less, a win: 39.48", after(1500, 1890, '1'), "1539 1851");
         CHECK.is("expectation, 391 less, a loss", after(1500, 1891, '0'), "1500 1891");
         CHECK.is("expectation within 0: 400 less", after(1500, 1900, '0'), "1500 1900");
         CHECK.is("expectation within 0: 411 less", after(1500, 1911, '0'), "1500 1911");
@@ -344,6 +348,53 @@ public final class RatingsBoundsTest {
         CHECK.is("29, rated again", fest.rated(0) + fest.rated(1), 2);
         fest.correct(0, '0');
         CHECK.is("19, on its own day", fest.ratingOn(0, 0) + " " + fest.ratingOn(0, 1), "1500 1480");
+    }
+
+    /** All hundred games are over on days of their own; then the first one is corrected, and all are reckoned anew. */
+    private static void hundredDays() {
+        MindFest fest = Fests.ofRatings(1500, 1620, 1740, 1860, 1980, 2100, 2220, 2340, 2460, 2580);
+        int[][] games = new int[100][];
+        for (int event = 0; event < 4; event++) {
+            fest.event('t', 5, 1023);
+        }
+        for (int game = 0; game < 100; game++) {
+            if (game % 5 == 0) {
+                CHECK.is("8, a round of five", fest.pair(game / 25), game);
+            }
+            games[game] = new int[]{fest.playerOf(game, true), fest.playerOf(game, false), game % 3};
+            fest.end(game, "0=1".charAt(game % 3));
+            CHECK.is("26, the day then", fest.day(), game + 1);
+        }
+        looksReckoned("26, a hundred days with games", fest, games);
+        games[0][2] = 2 - games[0][2];
+        CHECK.is("19, the first one of a hundred", fest.correct(0, '1'), '0');
+        looksReckoned("19, a hundred days anew", fest, games);
+        CHECK.is("29, rated games of a hundred days", fest.rated(0), 20);
+        CHECK.is("28, as the first one of a hundred began", fest.ratingOn(9, 0), 2580);
+        CHECK.is("28, as the last one of a hundred ended", fest.ratingOn(9, 100), fest.rating(9));
+        CHECK.yes("43, ratings are what a hundred days make anew", fest.isSound());
+    }
+
+    private static void looksReckoned(String label, MindFest fest, int[][] games) {
+        int[] ratings = {1500, 1620, 1740, 1860, 1980, 2100, 2220, 2340, 2460, 2580};
+        int[] played = new int[10];
+        for (int[] game : games) {
+            int first = change(ratings[game[0]], ratings[game[1]], played[game[0]], game[2]);
+            int second = change(ratings[game[1]], ratings[game[0]], played[game[1]], 2 - game[2]);
+            ratings[game[0]] += first;
+            ratings[game[1]] += second;
+            played[game[0]]++;
+            played[game[1]]++;
+        }
+        for (int player = 0; player < 10; player++) {
+            CHECK.is(label + ": " + player, fest.rating(player), ratings[player]);
+        }
+    }
+
+    private static int change(int own, int other, int played, int points) {
+        int expected = Math.min(1000, Math.max(0, 500 + (own - other) * 5 / 4));
+        int factor = played < 5 ? 40 : own >= 2400 ? 10 : 20;
+        return BigDecimal.valueOf(factor * (500L * points - expected), 3).setScale(0, RoundingMode.HALF_UP).intValue();
     }
 
     private static void ratingsOfDays() {

@@ -16,6 +16,7 @@ public final class RoundsBoundsTest {
         oneRound();
         sevenRounds();
         gamesThatGoOn();
+        eachGameThatGoesOn();
         fewerThanTwo();
         bannedAsideAndBack();
         noWayByMeetings();
@@ -108,6 +109,32 @@ public final class RoundsBoundsTest {
         fest.end(1, '+');
         fest.end(2, '=');
         CHECK.is("8, all of the one ahead are over", fest.pair(0), 6);
+    }
+
+    /** The first game, one between, or the last one alone goes on: each keeps the event from its next step. */
+    private static void eachGameThatGoesOn() {
+        for (int going = 0; going < 3; going++) {
+            int game = going;
+            Refusals one = new Refusals(CHECK, () -> allOverBut(game));
+            one.refuse("8, a game of it goes on: " + game, SUPPORT, fest -> fest.pair(0));
+            one.refuse("25, a game of it goes on: " + game, SUPPORT, fest -> fest.weight(0));
+            one.refuse("7, a game of it goes on: " + game, SUPPORT, fest -> fest.close(0));
+            MindFest fest = allOverBut(game);
+            CHECK.is("16, none goes on after game " + game, fest.end(game, '1'), 0);
+            CHECK.is("7, no game of it goes on", fest.close(0), 0);
+        }
+    }
+
+    private static MindFest allOverBut(int going) {
+        MindFest fest = Fests.ofPlayers(6);
+        fest.event('t', 2, 63);
+        fest.pair(0);
+        for (int game = 0; game < 3; game++) {
+            if (game != going) {
+                CHECK.is("16, how many of 3 go on", fest.end(game, '1') > 0, true);
+            }
+        }
+        return fest;
     }
 
     private static void fewerThanTwo() {

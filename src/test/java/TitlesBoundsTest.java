@@ -490,6 +490,10 @@ public final class TitlesBoundsTest {
         CHECK.no("35, eyes are told anew: 1", fest.suspect(5, 0));
         CHECK.yes("35, eyes are told anew: 2", fest.suspect(5, 1));
         CHECK.is("35, lifted again", fest.lift(5), 2);
+        CHECK.is("35, two moves are told after that", fest.agree(5, 2, 1), 2);
+        CHECK.is("35, no agreements of before count", fest.odds(5), 0.75);
+        CHECK.is("35, none agrees", fest.agree(5, 1, 0), 3);
+        CHECK.is("35, 1 of 3", fest.odds(5), 0.875);
     }
 
     private static void liftRefused() {
