@@ -1,13 +1,59 @@
-/** The four examples of the document, call by call. */
+import java.io.IOException;
+import java.lang.reflect.InvocationTargetException;
+import java.lang.reflect.Method;
+import java.util.List;
+
+/** The four examples of the document, call by call: as they stand there, and once more by hand. */
 public final class ExamplesTest {
     private static final Check CHECK = new Check("ExamplesTest");
 
-    public static void main(String[] args) {
+    public static void main(String[] args) throws IOException, ReflectiveOperationException {
+        fromTheDocument();
         roundByRating();
         takingAway();
         agreements();
         threePlayers();
         CHECK.close();
+    }
+
+    private static void fromTheDocument() throws IOException, ReflectiveOperationException {
+        String sizes = "";
+        for (List<Document.Call> example : new Document().examples()) {
+            MindFest fest = new MindFest();
+            for (Document.Call call : example) {
+                CHECK.is(call + ", as the document has it", answer(fest, call),
+                        call.thrown == null ? call.answer : call.thrown);
+            }
+            sizes += example.size() + " ";
+        }
+        CHECK.is("calls of the examples", sizes, "11 9 5 8 ");
+    }
+
+    /** What a call answers, written as the document writes it, or the name of what it throws. */
+    private static String answer(MindFest fest, Document.Call call) throws ReflectiveOperationException {
+        for (Method method : MindFest.class.getMethods()) {
+            if (method.getName().equals(call.name)) {
+                Object[] arguments = new Object[call.arguments.size()];
+                for (int i = 0; i < arguments.length; i++) {
+                    arguments[i] = valueOf(call.arguments.get(i));
+                }
+                try {
+                    Object got = method.invoke(fest, arguments);
+                    return got instanceof Character ? "'" + got + "'" : String.valueOf(got);
+                } catch (InvocationTargetException thrown) {
+                    return thrown.getCause().getClass().getSimpleName();
+                }
+            }
+        }
+        return "no such method";
+    }
+
+    private static Object valueOf(String argument) {
+        if (argument.startsWith("'")) {
+            return argument.charAt(1);
+        }
+        return argument.equals("true") || argument.equals("false") ? (Object) Boolean.valueOf(argument)
+                : (Object) Integer.valueOf(argument);
     }
 
     private static void roundByRating() {

@@ -26,6 +26,7 @@ public final class PlayersBoundsTest {
         clockAtFirst();
         clockRefused();
         joinTo();
+        banned();
         joinRefused();
         withdrawTo();
         withdrawRefused();
@@ -229,6 +230,28 @@ public final class PlayersBoundsTest {
         CHECK.is("5, ahead of the only round", single.join(0, 2), 3);
         single.event('n', 1, 6);
         CHECK.is("5, in two events", single.join(1, 0), 3);
+    }
+
+    /** A ban keeps one from being paired, and from nothing else. */
+    private static void banned() {
+        MindFest fest = Fests.ofPlayers(5);
+        Fests.ban(fest, 4);
+        fest.event('t', 2, 19);
+        CHECK.is("3, one who is banned is in it", fest.rank(0, 4), 3);
+        fest.event('t', 2, 3);
+        CHECK.is("5, one who is banned", fest.join(1, 4), 3);
+        fest.pair(0);
+        CHECK.is("8, not banned: the others", Fests.pairOf(fest, 0), "0-1");
+        CHECK.fails("8, who is banned has no bye", java.util.NoSuchElementException.class, () -> fest.bye(0, 0));
+        CHECK.is("21, who is banned has no points", fest.points(0, 4), 0);
+        CHECK.is("6, one who is banned", fest.withdraw(1, 4), 2);
+        CHECK.fails("5, nor joins again, banned", SUPPORT, () -> fest.join(1, 4));
+        Fests.lift(fest, 4);
+        CHECK.fails("5, nor joins again, the ban being lifted", SUPPORT, () -> fest.join(1, 4));
+        fest.end(0, '1');
+        fest.pair(0);
+        CHECK.is("8, of three one has the bye: 100, and not 400", fest.bye(0, 1), 0);
+        CHECK.is("8, the ban being lifted", Fests.pairOf(fest, 1), "1-4");
     }
 
     private static void joinRefused() {

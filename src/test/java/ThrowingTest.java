@@ -19,7 +19,7 @@ public final class ThrowingTest {
     private static String untouched;
 
     public static void main(String[] args) {
-        untouched = tell(scene());
+        untouched = tell(Fests.midway());
         playersAndEvents();
         games();
         persons();
@@ -28,32 +28,8 @@ public final class ThrowingTest {
         CHECK.close();
     }
 
-    /** Event 0 is closed and has a prize, event 1 has games that go on, event 2 has none; player 5 is banned. */
-    private static MindFest scene() {
-        MindFest fest = Fests.ofRatings(1900, 1950, 2000, 2050, 2100, 1800, 1700);
-        fest.event('t', 1, 15);
-        fest.event('n', 2, 62);
-        fest.event('t', 2, 3);
-        fest.clock(2, 'b', 20, 5, 2);
-        fest.pair(0);
-        fest.end(0, '1');
-        fest.end(1, '=');
-        fest.close(0);
-        fest.prize(0, 77);
-        fest.day();
-        fest.pair(1);
-        fest.move(2, 3, 5);
-        fest.end(3, '0');
-        fest.agree(5, 9, 9);
-        fest.suspect(5, 0);
-        fest.suspect(5, 1);
-        fest.agree(4, 8, 8);
-        fest.suspect(4, 0);
-        return fest;
-    }
-
     private static void wrong(String call, Class<? extends RuntimeException> due, Wrong wrong) {
-        MindFest fest = scene();
+        MindFest fest = Fests.midway();
         CHECK.fails(call, due, () -> wrong.run(fest));
         CHECK.is("what stands after " + call, tell(fest), untouched);
     }

@@ -26,6 +26,7 @@ public final class TitlesBoundsTest {
         entryRatings();
         pointsOfPossible();
         closedEvents();
+        normsOfWhoWithdrew();
         normsOfAllEvents();
         twoNorms();
         ratingAtFirst();
@@ -209,6 +210,22 @@ public final class TitlesBoundsTest {
         fest.close(event);
         CHECK.is("30, closed", fest.norms(0), 1);
         CHECK.is("30, of those who lost", fest.norms(1) + fest.norms(4), 0);
+    }
+
+    /** A norm asks for games in a closed event, not for being in it to its end; marks ask for that. */
+    private static void normsOfWhoWithdrew() {
+        MindFest fest = Fests.ofRatings(1500, 1900, 1900, 1900, 1900);
+        int event = Fests.gauntlet(fest, 0, new int[]{1, 2, 3, 4}, all(4, 2));
+        fest.withdraw(event, 0);
+        fest.close(event);
+        CHECK.is("30, one who withdrew after four games", fest.norms(0), 1);
+        CHECK.is("37, from which this one withdrew", fest.mark(0), 0);
+        MindFest banned = Fests.ofRatings(1500, 1900, 1900, 1900, 1900);
+        int other = Fests.gauntlet(banned, 0, new int[]{1, 2, 3, 4}, all(4, 2));
+        Fests.ban(banned, 0);
+        banned.close(other);
+        CHECK.is("30, one who is banned after four games", banned.norms(0), 1);
+        CHECK.is("37, one who is banned after four games", banned.mark(0), 1000);
     }
 
     private static MindFest withNorms(int rating, int count) {
