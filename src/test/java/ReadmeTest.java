@@ -61,7 +61,11 @@ public final class ReadmeTest {
         for (String line : shown) {
             source.append(looked(line)).append('\n');
         }
-        compile(source.append("} }\n").toString());
+        boolean isCompiled = compile(source.append("} }\n").toString());
+        CHECK.yes("README.md compiles", isCompiled);
+        if (!isCompiled) {
+            return;
+        }
         // It uses Check, which is not public, and so has to come from the loader of Check.
         Class<?> use = MethodHandles.lookup().defineClass(Files.readAllBytes(MADE.resolve("Shown.class")));
         try {
@@ -89,7 +93,7 @@ public final class ReadmeTest {
         return line;
     }
 
-    private static void compile(String source) throws IOException {
+    private static boolean compile(String source) throws IOException {
         Files.createDirectories(MADE);
         JavaCompiler compiler = ToolProvider.getSystemJavaCompiler();
         JavaFileObject file = new SimpleJavaFileObject(URI.create("string:///Shown.java"), JavaFileObject.Kind.SOURCE) {
@@ -99,7 +103,7 @@ public final class ReadmeTest {
             }
         };
         List<String> options = List.of("-d", MADE.toString(), "-cp", System.getProperty("java.class.path"));
-        CHECK.yes("README.md compiles", compiler.getTask(null, null, null, options, null, List.of(file)).call());
+        return compiler.getTask(null, null, null, options, null, List.of(file)).call();
     }
 
     private static void commands() throws IOException {
